@@ -116,8 +116,7 @@ public final class Sashwords {
         for (int k = 0; k < many && window.size() > 0; k++) {
             signs.append((char) window.readSign());
         }
-        done(0);
-        return signs.toString();
+        return done(signs.toString());
     }
 
     public int pour(int from, int into, int most) throws IndexOutOfBoundsException, IllegalArgumentException {
@@ -226,8 +225,7 @@ public final class Sashwords {
         requireWithin(many, 0, PIPE_MOST);
         StringBuilder signs = new StringBuilder();
         letOut(many, signs);
-        done(0);
-        return signs.toString();
+        return done(signs.toString());
     }
 
     public String pump(int what, int in, int out)
@@ -247,8 +245,7 @@ public final class Sashwords {
             letOut(out, signs);
             rounds++;
         }
-        done(0);
-        return signs.toString();
+        return done(signs.toString());
     }
 
     // What is asked of a window.
@@ -469,6 +466,11 @@ public final class Sashwords {
     }
 
     private int done(int answer) {
+        actsDone++;
+        return answer;
+    }
+
+    private String done(String answer) {
         actsDone++;
         return answer;
     }

@@ -347,6 +347,9 @@ public final class PromiseTests {
         due(6, x.look(0, 4));
         due(0, x.look(0, 5));
         dueAct(0, () -> x.run(0, 1, 1, 0));
+        dueAct(3, () -> x.run(2, 0, 1, 3));
+        x.flip(2);
+        due("\0\1\2", x.text(2, 0));
         dueAct(35, () -> x.run(0, 255, 255, 40));
         due(255, x.look(0, 5));
         due(254, x.look(0, 6));
