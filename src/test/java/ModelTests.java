@@ -5,9 +5,12 @@ import java.util.LinkedHashMap;
 import java.util.List;
 import java.util.Map;
 
-/** Long runs of calls: each answer, and all that can be asked after it, is that of a plain model. */
+/**
+ * Long runs of calls, each as long as an object may be used: each answer is that of a plain model, and so is all that
+ * can be found out in the end.
+ */
 public final class ModelTests {
-    private static final int RUNS = 300;
+    private static final int RUNS = 2000;
     private static final int CALLS = 512;
 
     /** Each method and the kinds of its arguments. Acts stand often, asks once. */
@@ -26,6 +29,8 @@ public final class ModelTests {
         "first source source", "last source source", "count source source", "place source source low",
         "place source source spot", "border source", "borders source", "chain source", "differ source source",
         "known source five", "held", "travelled two", "house four", "knock", "isSound", "digest"};
+
+    private static final List<String> LAST = lastCalls();
 
     private static long seed;
     private static int wrong = 0;
@@ -111,55 +116,67 @@ public final class ModelTests {
         }
     }
 
-    /** All that lies in the windows' reach, and the pipe's whole way. */
-    private static String whole(Sashwords x) {
-        StringBuilder all = new StringBuilder();
+    /** A run's last calls: they tell all that the calls ahead of them left, behind the limits too. */
+    private static List<String> lastCalls() {
+        List<String> all = new ArrayList<>();
         for (int w = 0; w < 6; w++) {
-            for (int p = -1; p <= 40; p++) {
-                all.append(x.look(w, p)).append(' ');
-            }
-            all.append(x.text(w, 0)).append(';').append(x.marked(w)).append(';');
+            all.addAll(List.of("marked " + w, "open " + w, "text " + w + " " + w % 4));
         }
-        return all.append(x.held()).append(x.travelled(0)).append(x.travelled(1)).append(x.digest()).toString();
+        for (int w = 0; w < 6; w++) {
+            all.addAll(List.of("run " + w + " " + 40 * w + " 1 40", "open " + w));
+            for (int other = 0; other < 6; other++) {
+                all.add("text " + other + " " + w % 4);
+            }
+        }
+        all.addAll(List.of("held", "travelled 0", "travelled 1", "drain 8", "feed 0 20", "pipe 8", "pump 6 8 8",
+                "pump 7 8 8", "house 0", "house 1", "house 2", "house 3", "isSound", "digest"));
+        return all;
     }
 
-    private static String whole(Model m) {
-        StringBuilder all = new StringBuilder();
-        for (int w = 0; w < 6; w++) {
-            for (int p = -1; p <= 40; p++) {
-                all.append(m.look(w, p)).append(' ');
-            }
-            all.append(m.text(w, 0)).append(';').append(m.marked(w)).append(';');
-        }
-        return all.append(m.held).append(m.sent).append(m.came).append(m.digest()).toString();
-    }
-
-    private static boolean runOnce(int number, Map<String, Method> real, Map<String, Method> plain) {
+    /** The calls of a run, as many as the document lets an object have. */
+    private static List<String> callsOfRun(int number) {
         seed = 7919L * number + 17;
+        List<String> all = new ArrayList<>();
+        while (all.size() < CALLS - LAST.size()) {
+            if (all.size() % 8 == 7) {
+                all.add("digest");
+            } else {
+                StringBuilder call = new StringBuilder();
+                for (String word : CALLS_TO_MAKE[chosen(CALLS_TO_MAKE.length)].split(" ")) {
+                    call.append(call.length() == 0 ? word : " " + argument(word));
+                }
+                all.add(call.toString());
+            }
+        }
+        all.addAll(LAST);
+        return all;
+    }
+
+    private static Object[] arguments(String[] words) {
+        Object[] all = new Object[words.length - 1];
+        for (int i = 0; i < all.length; i++) {
+            all[i] = Integer.valueOf(words[i + 1]);
+        }
+        return all;
+    }
+
+    private static void runOnce(int number, Map<String, Method> real, Map<String, Method> plain) {
         Sashwords x = new Sashwords();
         Model m = new Model();
-        StringBuilder made = new StringBuilder();
-        for (int k = 0; k < CALLS; k++) {
-            String[] words = CALLS_TO_MAKE[chosen(CALLS_TO_MAKE.length)].split(" ");
-            Object[] arguments = new Object[words.length - 1];
-            for (int i = 0; i < arguments.length; i++) {
-                arguments[i] = argument(words[i + 1]);
-            }
+        List<String> calls = callsOfRun(number);
+        for (int k = 0; k < calls.size(); k++) {
+            String[] words = calls.get(k).split(" ");
+            Object[] arguments = arguments(words);
             Object got = answer(real.get(words[0]), x, arguments);
             Object want = answer(plain.get(words[0]), m, arguments);
-            made.append(words[0]).append(List.of(arguments)).append(" = ").append(got).append('\n');
             compared++;
-            if (!want.equals(got) || !whole(m).equals(whole(x))) {
+            if (!want.equals(got)) {
                 wrong++;
-                String[] lines = made.toString().split("\n");
-                System.out.println("run " + number + ", call " + k + ": due is " + want + " of the last of these:");
-                for (int i = Math.max(0, lines.length - 12); i < lines.length; i++) {
-                    System.out.println("  " + lines[i]);
-                }
-                return false;
+                System.out.println("run " + number + ", call " + (k + 1) + ": told " + got + ", due is " + want
+                        + " of the last of these: " + calls.subList(Math.max(0, k - 12), k + 1));
+                return;
             }
         }
-        return true;
     }
 
     public static void main(String[] args) {
@@ -167,6 +184,10 @@ public final class ModelTests {
         Map<String, Method> plain = methods(Model.class);
         for (int number = 0; number < RUNS && wrong < 5; number++) {
             runOnce(number, real, plain);
+        }
+        if (compared != RUNS * CALLS && wrong == 0) {
+            wrong++;
+            System.out.println("ModelTests: a run has not all of its calls");
         }
         System.out.println("ModelTests: " + compared + " calls compared, " + wrong + " runs wrong");
         if (wrong != 0) {
