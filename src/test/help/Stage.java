@@ -144,7 +144,7 @@ final class Stage {
         return "";
     }
 
-    /** Tells of each sentence of the chapters for which no check stood, and ends the program, with 1 if one was wrong. */
+    /** Tells of each sentence of the chapters for which no check stood; ends the program with 1 if one was wrong. */
     static void finish(String name, List<String> chapters) {
         for (String one : chapters) {
             for (String words : SENTENCES.getOrDefault(one, List.of("the whole chapter"))) {

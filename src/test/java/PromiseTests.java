@@ -1,4 +1,7 @@
-/** For each promise of the document ordinary inputs, the edges that it names, and wrong inputs. */
+/**
+ * For each promise of the document ordinary inputs, the edges that it names, and wrong inputs. No object gets more than
+ * 512 calls, as the document lets it have no more.
+ */
 public final class PromiseTests {
     private static final String BOUNDS = "throws.IndexOutOfBoundsException";
     private static final String ARGUMENT = "throws.IllegalArgumentException";
@@ -45,9 +48,9 @@ public final class PromiseTests {
 
     /** An answer that changes nothing: an ask, or a call that throws. */
     private static void ask(Object want, Call call) {
-        String before = whole();
+        long before = x.digest();
         due(want, answer(call));
-        due(before, whole());
+        due(before, x.digest());
     }
 
     private static void refuseBounds(Call call) {
@@ -82,34 +85,17 @@ public final class PromiseTests {
         due(refusals, x.house(1));
     }
 
+    /** What a refused act must leave as it is; the edge tests look deeper, on objects made for each call. */
     private static String state() {
-        StringBuilder all = new StringBuilder();
+        StringBuilder all = new StringBuilder(x.held());
         for (int w = 0; w < 6; w++) {
-            all.append(window(w)).append(';');
-            for (int p = 0; p < x.limit(w); p++) {
-                all.append(x.look(w, p)).append(',');
-            }
+            all.append(';').append(x.position(w)).append(' ').append(x.marked(w)).append(' ').append(x.text(w, 0));
         }
-        all.append(traces(6)).append(';').append(traces(7)).append(';').append(x.held()).append(';');
-        all.append(x.travelled(0)).append(';').append(x.travelled(1)).append(';');
-        return all.append(x.house(2)).append(',').append(x.house(3)).toString();
-    }
-
-    private static String whole() {
-        return state() + ";" + x.house(0) + "," + x.house(1) + ";" + x.digest();
+        return all.toString();
     }
 
     private static String window(int w) {
         return x.position(w) + " " + x.limit(w) + " " + x.capacity(w) + " " + x.marked(w);
-    }
-
-    /** What asking tells of the builder or the kept text, whose signs no ask tells; the digest has those. */
-    private static String traces(int what) {
-        StringBuilder all = new StringBuilder();
-        for (int other = 0; other < 8; other++) {
-            all.append(x.differ(what, other)).append('/').append(x.count(what, other)).append('/');
-        }
-        return all.append(x.borders(what)).toString();
     }
 
     /** The signs of a source, by way of the pipe, which is new for it. */

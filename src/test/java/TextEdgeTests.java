@@ -78,7 +78,7 @@ public final class TextEdgeTests {
     // Section 2.
 
     private static void sources() {
-        Stage.says("section 2", "There are eight SOURCES: 0 to 5 the WINDOWS of that number, 6 the BUILDER, 7 the KEPT");
+        Stage.says("section 2", "There are eight SOURCES: 0 to 5 the WINDOWS of that number, 6 the BUILDER");
         StringBuilder calls = new StringBuilder();
         for (int w = 0; w < 6; w++) {
             calls.append(fill(w, "abcdef".substring(0, w + 1))).append(';');
@@ -138,7 +138,7 @@ public final class TextEdgeTests {
         lies("a", "aa");
         lies("\0\0\1", "\0\1", 1);
         lies("\u00ff\u007f", "\u007f", 1);
-        Stage.says("section 2", "So an empty word LIES at each place of 0 to the LENGTH of the TEXT, and a word may LIE");
+        Stage.says("section 2", "So an empty word LIES at each place of 0 to the LENGTH of the TEXT, and a word");
         lies("", "", 0);
         lies("a", "", 0, 1);
         lies("abc", "", 0, 1, 2, 3);
@@ -884,7 +884,7 @@ public final class TextEdgeTests {
     }
 
     private static void known() {
-        Stage.says(44, "Returns that place at which the word LIES, -1 if there is none; of 4: 1 if it does, otherwise 0");
+        Stage.says(44, "Returns that place at which the word LIES, -1 if there is none; of 4: 1 if it does");
         scene(fill(0, "xabab"), "keep 0", fill(0, "yyabyab"), "load 0", fill(1, "ab"), fill(2, "q"), "allocate 3 0");
         knownAre(1, 1, 3, 2, 5, 1);
         knownAre(2, -1, -1, -1, -1, 0);
@@ -984,7 +984,7 @@ public final class TextEdgeTests {
         Stage.says(50, "Computes a checksum");
         scene();
         Stage.asked(-2344241609769775293L, "digest");
-        Stage.says(50, "A number d starts with 7702; then d becomes d * 31 + v, which wraps around as a 64-bit integer");
+        Stage.says(50, "A number d starts with 7702; then d becomes d * 31 + v, which wraps around as a 64");
         scene("allocate 0 0; allocate 1 0; allocate 2 0; allocate 3 0; allocate 4 0; allocate 5 0");
         Stage.asked(-5023283064756167865L, "digest");
         Stage.says(50, "Returns d");
