@@ -126,7 +126,8 @@ public final class FaceTests {
         String source = Files.readString(Path.of("src/main/java/Sashwords.java"));
         String[] banned = {"\\bpackage\\b", "\\bimport (?!java\\.util\\.(ArrayList|List|Arrays|Iterator|NoSuch\\w+);)",
             "\\btry *\\(", "\\bcatch *\\([^)]*(Array|NullPointer|ClassCast|Runtime|Throwable)",
-            "\\bcatch *\\( *Exception", "\\bfinally\\b", "\\bgetMessage\\b", "->", "::", "\\bsynchronized\\b", "\\bassert\\b",
+            "\\bcatch *\\( *Exception", "\\bfinally\\b", "\\bgetMessage\\b", "->", "::",
+            "\\bsynchronized\\b", "\\bassert\\b",
             "\\bSystem\\.(?!arraycopy\\b)", "\\bThread\\b", "\\bMath\\.\\w+Exact\\b", "@(?!Override\\b)\\w+",
             "\\bhashCode\\b", "\\btoString\\(\\) *\\{", "\"\\s*\\+", "\\+\\s*\"", "[^\\x00-\\x7f]"};
         for (String ban : banned) {
